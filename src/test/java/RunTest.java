@@ -102,7 +102,7 @@ public final class RunTest {
         x.triple(100, 101, 301);
         x.triple(101, 7, 3);
         x.run();
-        check.due("rule 13 holds only for type 9 itself", x.find(300, 4, 8) >= 0);
+        check.due("rule 13", x.find(300, 4, 8) >= 0);
         check.due("rule 8", x.find(300, 4, 2) >= 0);
         check.due("rule 10", x.find(300, 4, 300) >= 0);
         check.due("rule 6", x.find(301, 5, 301) >= 0);
@@ -157,7 +157,7 @@ public final class RunTest {
         check.due("told(0) when it fits again", x.told(0), rows);
     }
 
-    /** Facts with a free property add few rows each, so that the limit is met exactly. */
+    /** Each further fact of property 160 adds two rows, or one without a new term: 600 exactly. */
     private static void sixHundredRowsAreAllowed() {
         RdfsRules x = new RdfsRules(0);
         for (int i = 0; i < 30; i++) {
@@ -169,7 +169,7 @@ public final class RunTest {
         x.run();
         check.due("the free property adds rows", x.told(0) > chain);
         int next = 152;
-        while (x.told(0) < 600 && x.told(0) + 2 <= 600 && next < 199) {
+        while (x.told(0) <= 598 && next < 199) {
             x.triple(next, 160, 151);
             x.run();
             next++;
