@@ -34,6 +34,14 @@ final class Check {
         dueThrow(what, IllegalArgumentException.class, call);
     }
 
+    void dueIllegalState(String what, Runnable call) {
+        dueThrow(what, IllegalStateException.class, call);
+    }
+
+    void dueUnsupported(String what, Runnable call) {
+        dueThrow(what, UnsupportedOperationException.class, call);
+    }
+
     /** One row of the latest closure, all seven parts of it. */
     void dueRow(RdfsRules x, int row, int... want) {
         for (int what = 0; what < 7; what++) {

@@ -1,139 +1,199 @@
-/** Promise 7: run, and the section 'Terms': every rule, the order of the rows, the limit. */
+/** Promise 7: run, its rounds and its limit. */
 public final class RunTest {
     private static final Check check = new Check();
+    private static final Twins twins = new Twins(check);
+    /** All that follows of (100 101 102), word for word. */
+    private static final int[][] OF_ONE_FACT = {
+        {100, 101, 102, -1, -1, -1, 0},
+        {101, 0, 1, 1, 0, -1, 1},
+        {100, 0, 2, 4, 0, -1, 1},
+        {102, 0, 2, 4, 0, -1, 1},
+        {0, 0, 1, 1, 1, -1, 2},
+        {101, 0, 2, 4, 1, -1, 2},
+        {1, 0, 2, 4, 1, -1, 2},
+        {2, 0, 2, 4, 2, -1, 2},
+        {101, 5, 101, 6, 1, -1, 2},
+        {5, 0, 1, 1, 8, -1, 3},
+        {0, 0, 2, 4, 4, -1, 3},
+        {0, 5, 0, 6, 4, -1, 3},
+        {5, 0, 2, 4, 9, -1, 4},
+        {5, 5, 5, 6, 9, -1, 4},
+    };
 
     public static void main(String[] args) {
-        oneRoundAsItIsWritten();
-        everyRule();
-        aFactMayBeFirstAndSecond();
-        literalsAsSubjects();
-        noLiteralAsProperty();
-        aNewRunForgetsTheFormer();
+        roundsAsTheyAreWritten();
+        noRoundWithoutRows();
+        noRoundThatMakesNone();
+        oneRoundForOneFact();
+        theLastRowIsOfTheLastRound();
+        anew();
+        runningAgainChangesNothing();
+        sixHundredRowsAreTheMost();
+        oneMoreThanSixHundred();
+        tooManyInTheFirstRound();
+        tooManyByTheAxioms();
+        theFirstRunIsRefused();
         tooManyRowsChangeNothing();
-        sixHundredRowsAreAllowed();
+        afterRefusalsItFitsAgain();
         check.end();
     }
 
-    private static void oneRoundAsItIsWritten() {
+    private static void roundsAsTheyAreWritten() {
         RdfsRules x = new RdfsRules(0);
         x.triple(100, 101, 102);
         check.due("run()", x.run(), 4);
-        int[][] rows = {
-            {100, 101, 102, -1, -1, -1, 0},
-            {101, 0, 1, 1, 0, -1, 1},
-            {100, 0, 2, 4, 0, -1, 1},
-            {102, 0, 2, 4, 0, -1, 1},
-            {0, 0, 1, 1, 1, -1, 2},
-            {101, 0, 2, 4, 1, -1, 2},
-            {1, 0, 2, 4, 1, -1, 2},
-            {2, 0, 2, 4, 2, -1, 2},
-            {101, 5, 101, 6, 1, -1, 2},
-            {5, 0, 1, 1, 8, -1, 3},
-            {0, 0, 2, 4, 4, -1, 3},
-            {0, 5, 0, 6, 4, -1, 3},
-            {5, 0, 2, 4, 9, -1, 4},
-            {5, 5, 5, 6, 9, -1, 4},
-        };
-        check.due("told(0)", x.told(0), rows.length);
-        for (int i = 0; i < rows.length; i++) {
-            check.dueRow(x, i, rows[i]);
+        check.due("told(0)", x.told(0), OF_ONE_FACT.length);
+        for (int i = 0; i < OF_ONE_FACT.length; i++) {
+            check.dueRow(x, i, OF_ONE_FACT[i]);
         }
     }
 
-    private static void everyRule() {
-        RdfsRules x = new RdfsRules(0);
-        x.literal(140);
-        x.triple(100, 101, 300);
-        x.triple(101, 6, 110);
-        x.triple(101, 7, 111);
-        x.triple(101, 5, 102);
-        x.triple(102, 5, 103);
-        x.triple(120, 0, 3);
-        x.triple(110, 4, 112);
-        x.triple(112, 4, 113);
-        x.triple(20, 0, 11);
-        x.triple(140, 0, 9);
-        x.triple(104, 0, 1);
-        x.triple(100, 0, 110);
-        x.run();
-        dueMade(x, 300, 0, 140, 0, 0, -1);
-        dueMade(x, 101, 0, 1, 1, 0, -1);
-        dueMade(x, 300, 0, 111, 3, 2, 0);
-        dueMade(x, 100, 0, 2, 4, 0, -1);
-        dueMade(x, 101, 5, 103, 5, 3, 4);
-        dueMade(x, 104, 5, 104, 6, 10, -1);
-        dueMade(x, 100, 102, 300, 7, 3, 0);
-        dueMade(x, 120, 4, 2, 8, 5, -1);
-        dueMade(x, 100, 0, 112, 9, 6, 11);
-        dueMade(x, 120, 4, 120, 10, 5, -1);
-        dueMade(x, 110, 4, 113, 11, 6, 7);
-        dueMade(x, 20, 5, 10, 12, 8, -1);
-        dueMade(x, 140, 4, 8, 13, 9, -1);
-        x.remove(100, 0, 110);
-        x.run();
-        dueMade(x, 100, 0, 110, 2, 1, 0);
-    }
-
-    /** A fact made in the first round. */
-    private static void dueMade(RdfsRules x, int s, int p, int o, int rule, int first, int second) {
-        int row = x.find(s, p, o);
-        check.due("(" + s + " " + p + " " + o + ") is a row", row >= 0);
-        if (row >= 0) {
-            check.dueRow(x, row, s, p, o, rule, first, second, 1);
+    /** "The first round that makes none ends it (it is not counted)": on an empty object the first. */
+    private static void noRoundWithoutRows() {
+        for (int memberships = 0; memberships <= 1; memberships++) {
+            RdfsRules x = new RdfsRules(memberships);
+            x.literal(100);
+            check.due("run()", x.run(), 0);
+            check.due("told(0)", x.told(0), 0);
+            check.due("run() again", x.run(), 0);
         }
     }
 
-    private static void aFactMayBeFirstAndSecond() {
+    private static RdfsRules givenTheFirstRows(int n) {
         RdfsRules x = new RdfsRules(0);
-        x.triple(6, 6, 110);
-        x.triple(7, 7, 111);
-        x.triple(5, 5, 112);
-        x.run();
-        dueMade(x, 6, 0, 110, 2, 0, 0);
-        dueMade(x, 111, 0, 111, 3, 1, 1);
-        dueMade(x, 5, 112, 112, 7, 2, 2);
+        for (int i = 0; i < n; i++) {
+            x.triple(OF_ONE_FACT[i][0], OF_ONE_FACT[i][1], OF_ONE_FACT[i][2]);
+        }
+        return x;
     }
 
-    private static void literalsAsSubjects() {
-        RdfsRules x = new RdfsRules(0);
-        x.literal(9);
-        x.literal(1);
-        x.triple(100, 101, 300);
-        x.triple(100, 101, 301);
-        x.triple(101, 7, 3);
-        x.run();
-        check.due("rule 13", x.find(300, 4, 8) >= 0);
-        check.due("rule 8", x.find(300, 4, 2) >= 0);
-        check.due("rule 10", x.find(300, 4, 300) >= 0);
-        check.due("rule 6", x.find(301, 5, 301) >= 0);
-        check.due("no rule 6 for the other", x.find(300, 5, 300), -1);
-    }
-
-    private static void noLiteralAsProperty() {
-        RdfsRules x = new RdfsRules(0);
-        x.literal(150);
-        x.triple(101, 5, 300);
-        x.triple(100, 101, 102);
-        x.run();
-        check.due("(100 300 102)", x.find(100, 300, 102), -1);
-        for (int row = 0; row < x.told(0); row++) {
-            check.due("the property of row " + row + " is no literal", x.closed(row, 1) < 300);
+    /** All that follows is given: the first round makes none. */
+    private static void noRoundThatMakesNone() {
+        RdfsRules x = givenTheFirstRows(OF_ONE_FACT.length);
+        check.due("run()", x.run(), 0);
+        check.due("told(0)", x.told(0), OF_ONE_FACT.length);
+        for (int i = 0; i < OF_ONE_FACT.length; i++) {
+            check.dueRow(x, i, OF_ONE_FACT[i][0], OF_ONE_FACT[i][1], OF_ONE_FACT[i][2], -1, -1, -1, 0);
         }
     }
 
-    private static void aNewRunForgetsTheFormer() {
+    /** All but the last is given: one round makes it, the next makes none. */
+    private static void oneRoundForOneFact() {
+        int last = OF_ONE_FACT.length - 1;
+        RdfsRules x = givenTheFirstRows(last);
+        check.due("run()", x.run(), 1);
+        check.due("told(0)", x.told(0), last + 1);
+        check.dueRow(x, last, 5, 5, 5, 6, 9, -1, 1);
+    }
+
+    /** "how many rounds" */
+    private static void theLastRowIsOfTheLastRound() {
         RdfsRules x = Samples.smallClosure();
-        int rows = x.told(0);
-        check.due("the same again", x.run(), 4);
-        check.due("as many rows", x.told(0), rows);
+        check.due("of a small closure", x.run(), x.closed(x.told(0) - 1, 6));
+        x = Samples.full();
+        check.due("of a full object", x.run(), x.closed(x.told(0) - 1, 6));
+        x = Samples.closingTo(600);
+        check.due("of 600 rows", x.run(), 5);
+        check.due("of the last of them", x.closed(599, 6), 5);
+    }
+
+    /** "THE CLOSURE, anew": nothing of the former one is left. */
+    private static void anew() {
+        RdfsRules x = Samples.smallClosure();
         x.remove(110, 0, 100);
         x.remove(100, 4, 101);
         x.remove(101, 4, 102);
         check.due("of nothing", x.run(), 0);
         check.due("no rows", x.told(0), 0);
         check.due("no find", x.find(100, 4, 101), -1);
+        x.triple(100, 101, 102);
+        check.due("of another fact", x.run(), 4);
+        check.due("its rows", x.told(0), OF_ONE_FACT.length);
+        for (int i = 0; i < OF_ONE_FACT.length; i++) {
+            check.dueRow(x, i, OF_ONE_FACT[i]);
+        }
+        check.due("find(110, 0, 102)", x.find(110, 0, 102), -1);
     }
 
+    private static void runningAgainChangesNothing() {
+        twins.dueIdle("of a small closure", Samples::smallClosure, 4, RdfsRules::run);
+        twins.dueIdle("of a full object", Samples::full, 3, RdfsRules::run);
+        twins.dueIdle("of nothing", () -> new RdfsRules(1), 0, RdfsRules::run);
+    }
+
+    /** "A closure may have 600 rows.", "UnsupportedOperationException: it would have more than 600 rows." */
+    private static void sixHundredRowsAreTheMost() {
+        for (int rows : new int[] {598, 599, 600}) {
+            RdfsRules x = Samples.closingTo(rows);
+            check.due("run() of " + rows, x.run(), 5);
+            check.due("told(0)", x.told(0), rows);
+            check.dueRow(x, rows - 1, 100, 4, 132, 11, rows - 153, rows - 137, 5);
+            check.dueIllegalArgument("there is no row more", () -> x.closed(rows, 0));
+        }
+        for (int rows : new int[] {601, 602, 603}) {
+            RdfsRules x = Samples.closingTo(rows);
+            check.dueUnsupported("run() of " + rows, x::run);
+            check.due("told(0)", x.told(0), 0);
+        }
+    }
+
+    /** From 600 rows to one more and back. */
+    private static void oneMoreThanSixHundred() {
+        RdfsRules x = Samples.closingTo(600);
+        x.run();
+        x.triple(150, 199, 151);
+        check.dueUnsupported("one more", x::run);
+        check.due("told(0) after it", x.told(0), 600);
+        check.due("the one more is no row", x.find(150, 199, 151), -1);
+        x.remove(150, 199, 151);
+        check.due("without it", x.run(), 5);
+        check.due("told(0) without it", x.told(0), 600);
+    }
+
+    /** 20 properties above one that 40 facts have: 800 facts by rule 7 at once. */
+    private static void tooManyInTheFirstRound() {
+        RdfsRules x = new RdfsRules(0);
+        for (int i = 0; i < 20; i++) {
+            x.triple(199, 5, 100 + i);
+        }
+        for (int i = 0; i < 40; i++) {
+            x.triple(120 + i, 199, 120);
+        }
+        check.dueUnsupported("run()", x::run);
+        check.due("told(0)", x.told(0), 0);
+        check.due("told(1)", x.told(1), 60);
+    }
+
+    private static void tooManyByTheAxioms() {
+        RdfsRules x = Samples.closingTo(600);
+        x.run();
+        x.axioms(true);
+        check.dueUnsupported("with axioms", x::run);
+        check.due("told(0)", x.told(0), 600);
+        check.due("the latest has none", x.closed(0, 3), RdfsRules.NONE);
+        x.axioms(false);
+        check.due("without axioms", x.run(), 5);
+    }
+
+    /** There is no latest closure yet, and there is none after it. */
+    private static void theFirstRunIsRefused() {
+        RdfsRules x = Samples.closingTo(601);
+        for (int times = 0; times < 3; times++) {
+            check.dueUnsupported("run()", x::run);
+            for (int what : new int[] {0, 3, 4}) {
+                check.due("told(" + what + ")", x.told(what), 0);
+            }
+            for (int r = 0; r <= 13; r++) {
+                check.due("rule(" + r + ")", x.rule(r), 0);
+            }
+            check.due("find(100, 4, 101)", x.find(100, 4, 101), -1);
+            check.dueIllegalArgument("closed(0, 0)", () -> x.closed(0, 0));
+            check.dueIllegalArgument("trace(0)", () -> x.trace(0));
+            check.dueIllegalArgument("proof(0, 0)", () -> x.proof(0, 0));
+        }
+    }
+
+    /** "A call that throws changes nothing" */
     private static void tooManyRowsChangeNothing() {
         RdfsRules x = Samples.smallClosure();
         int rows = x.told(0);
@@ -141,48 +201,28 @@ public final class RunTest {
         x.axioms(true);
         int given = x.told(1);
         for (int times = 0; times < 3; times++) {
-            check.dueThrow("run()", UnsupportedOperationException.class, x::run);
+            check.dueUnsupported("run()", x::run);
             check.due("told(0)", x.told(0), rows);
             check.due("told(1)", x.told(1), given);
             check.due("find(110, 0, 102)", x.find(110, 0, 102), 17);
             check.dueRow(x, 0, 100, 4, 101, -1, -1, -1, 0);
             check.due("trace(17)", x.trace(17), 5);
+            check.due("proof(17, 3)", x.proof(17, 3), 9);
+            check.due("rule(11)", x.rule(11), 1);
             check.due("find(120, 4, 121)", x.find(120, 4, 121), -1);
+            check.due("axioms are still asked for", x.remove(0, 0, 1), 2);
+            check.dueIllegalArgument("no more rows", () -> x.closed(rows, 0));
         }
+    }
+
+    /** A run that fits answers what it would without those that did not. */
+    private static void afterRefusalsItFitsAgain() {
+        RdfsRules x = Samples.afterRefusedRun();
+        check.dueUnsupported("run()", x::run);
         for (int i = 2; i < 60; i++) {
             x.remove(100 + i, 4, 101 + i);
         }
-        x.axioms(false);
         check.due("run() when it fits again", x.run(), 4);
-        check.due("told(0) when it fits again", x.told(0), rows);
-    }
-
-    /** Each further fact of property 160 adds two rows, or one without a new term: 600 exactly. */
-    private static void sixHundredRowsAreAllowed() {
-        RdfsRules x = new RdfsRules(0);
-        for (int i = 0; i < 30; i++) {
-            x.triple(100 + i, 4, 101 + i);
-        }
-        x.run();
-        int chain = x.told(0);
-        x.triple(150, 160, 151);
-        x.run();
-        check.due("the free property adds rows", x.told(0) > chain);
-        int next = 152;
-        while (x.told(0) <= 598 && next < 199) {
-            x.triple(next, 160, 151);
-            x.run();
-            next++;
-        }
-        if (x.told(0) == 599) {
-            x.triple(150, 160, 150);
-            x.run();
-        }
-        check.due("told(0)", x.told(0), 600);
-        check.due("the last row", x.closed(599, 6) >= 0);
-        check.dueIllegalArgument("closed(600, 0)", () -> x.closed(600, 0));
-        x.triple(151, 160, 151);
-        check.dueThrow("one more", UnsupportedOperationException.class, x::run);
-        check.due("told(0) after it", x.told(0), 600);
+        twins.compare("when it fits again", x, Samples.smallClosure());
     }
 }
