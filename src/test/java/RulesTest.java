@@ -11,6 +11,8 @@ public final class RulesTest {
         theLowerRuleIsFirst();
         theLowerRowsAreFirst();
         rowsOfThisRoundWait();
+        theFirstRowOfARoundIsUsed();
+        theLastRowOfARoundIsUsed();
         ruleZeroIsForLiterals();
         literalsAsSubjects();
         noLiteralAsProperty();
@@ -172,6 +174,38 @@ public final class RulesTest {
         check.due("the first fact of (120 0 112)", x.closed(x.find(120, 0, 112), 4), 2);
     }
 
+    /** All that follows is given but for two facts, of which the one is made of the other. */
+    private static void theFirstRowOfARoundIsUsed() {
+        RdfsRules all = new RdfsRules(0);
+        all.triple(110, 0, 9);
+        all.triple(120, 0, 110);
+        all.run();
+        RdfsRules x = new RdfsRules(0);
+        int rows = all.told(0);
+        for (int row = 0; row < rows; row++) {
+            if (row != all.find(110, 4, 8) && row != all.find(120, 0, 8)) {
+                x.triple(all.closed(row, 0), all.closed(row, 1), all.closed(row, 2));
+            }
+        }
+        check.due("run()", x.run(), 2);
+        check.due("told(0)", x.told(0), rows);
+        check.dueRow(x, rows - 2, 110, 4, 8, 13, 0, -1, 1);
+        check.dueRow(x, rows - 1, 120, 0, 8, 9, rows - 2, 1, 2);
+    }
+
+    /** Rule 13 is the last of the first round, and what it made is used in the second. */
+    private static void theLastRowOfARoundIsUsed() {
+        RdfsRules x = new RdfsRules(0);
+        x.triple(110, 0, 9);
+        x.triple(120, 0, 110);
+        x.run();
+        int row = x.find(110, 4, 8);
+        check.due("the round of (110 4 8)", x.closed(row, 6), 1);
+        check.due("the next row's round", x.closed(row + 1, 6), 2);
+        int made = x.find(120, 0, 8);
+        check.dueRow(x, made, 120, 0, 8, 9, row, 1, 2);
+    }
+
     /** "x a literal of type t": the highest name is none. */
     private static void ruleZeroIsForLiterals() {
         RdfsRules x = Samples.withLiterals(1);
@@ -194,7 +228,8 @@ public final class RulesTest {
         x.triple(100, 101, 301);
         x.triple(101, 7, 3);
         x.run();
-        check.due("rule 4", x.find(300, 0, 2) >= 0);
+        dueMade(x, 300, 0, 2, 4, 0, -1);
+        dueMade(x, 300, 0, 3, 3, 2, 0);
         check.due("rule 13", x.find(300, 4, 8) >= 0);
         check.due("rule 8", x.find(300, 4, 2) >= 0);
         check.due("rule 10", x.find(300, 4, 300) >= 0);

@@ -13,6 +13,8 @@ public final class ToldTest {
         membershipsAtTheCount();
         allAreWithoutAxioms();
         membershipsOfThatClosure();
+        ofSixHundredRows();
+        rowsOfAFormerClosureDoNotCount();
         whatFromZeroToFour();
         refusalsChangeNothing();
         check.end();
@@ -187,6 +189,35 @@ public final class ToldTest {
         check.due("told(4) after axioms(true)", y.told(4), 9);
         y.run();
         check.due("told(4) after run()", y.told(4), 0);
+    }
+
+    private static void ofSixHundredRows() {
+        RdfsRules x = Samples.closingTo(600);
+        x.run();
+        check.due("told(3) of 600 rows", x.told(3), 0);
+        check.due("told(4) of 600 rows", x.told(4), 0);
+    }
+
+    /** A long closure, then one of 13 rows that has neither literals nor memberships. */
+    private static void rowsOfAFormerClosureDoNotCount() {
+        RdfsRules x = Samples.withLiterals(20);
+        for (int i = 0; i < 20; i++) {
+            x.triple(199, 20, 300 + i);
+        }
+        x.run();
+        x.run();
+        check.due("told(3) of the long one", x.told(3), 40);
+        check.due("told(4) of the long one", x.told(4), 20);
+        for (int i = 0; i < 20; i++) {
+            x.remove(199, 20, 300 + i);
+        }
+        x.triple(199, 151, 199);
+        for (int times = 0; times < 2; times++) {
+            x.run();
+            check.due("told(0)", x.told(0), 13);
+            check.due("told(3)", x.told(3), 0);
+            check.due("told(4)", x.told(4), 0);
+        }
     }
 
     /** "IllegalArgumentException: .. a number is not as it may be" */
