@@ -79,6 +79,7 @@ public final class CountTest {
         check.due("the third is still not", x.remove(22, 0, 11), 0);
     }
 
+    /** "then, if this was told at the beginning": else no number brings memberships in. */
     private static void withoutMembershipsItChangesNothing() {
         for (int n = 0; n <= 9; n++) {
             RdfsRules x = new RdfsRules(0);
@@ -88,7 +89,16 @@ public final class CountTest {
             x.run();
             check.due("axioms", axiomRows(x), 15);
             check.due("find(20, 0, 11)", x.find(20, 0, 11), -1);
+            RdfsRules counted = withAxiomsAlone();
+            counted.count(n);
+            twins.compare("count(" + n + ") without memberships", counted, withAxiomsAlone());
         }
+    }
+
+    private static RdfsRules withAxiomsAlone() {
+        RdfsRules x = new RdfsRules(0);
+        x.axioms(true);
+        return x;
     }
 
     /** "IllegalArgumentException: not 0 .. 9." */

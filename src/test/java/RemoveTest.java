@@ -67,6 +67,7 @@ public final class RemoveTest {
         twins.dueIdle("one beyond the count", Samples::full, 0, y -> y.remove(25, 0, 11));
     }
 
+    /** "A given fact is no more: 1; .. 2 if it is none, but one of the axioms": 1 while it is given. */
     private static void givenAxiomsAreRemovedFirst() {
         RdfsRules x = new RdfsRules(1);
         x.axioms(true);
@@ -76,6 +77,16 @@ public final class RemoveTest {
         check.due("still an axiom", x.remove(9, 4, 3), 2);
         x.run();
         check.due("still its row", x.find(9, 4, 3), 14);
+        RdfsRules y = new RdfsRules(1);
+        y.triple(20, 0, 11);
+        y.axioms(true);
+        check.due("given before the axioms", y.remove(20, 0, 11), 1);
+        check.due("an axiom then", y.remove(20, 0, 11), 2);
+        RdfsRules z = new RdfsRules(0);
+        z.axioms(true);
+        z.triple(20, 0, 11);
+        check.due("given, and no axiom without memberships", z.remove(20, 0, 11), 1);
+        check.due("not given then", z.remove(20, 0, 11), 0);
     }
 
     /** The axioms that are asked for end with the last of the first n memberships. */

@@ -110,7 +110,7 @@ public final class TripleTest {
         check.due("the 81st is none", x.find(100, 0, 102), -1);
     }
 
-    /** Of 80 facts each may be told again: there would not be more. */
+    /** "(nothing, if it was)": of 80 facts each may be told again, there would not be more. */
     private static void oneThatWasGivenIsNotOneMore() {
         RdfsRules x = Samples.withFacts(80);
         for (int n = 0; n < 80; n++) {
