@@ -21,9 +21,11 @@ import java.util.stream.Stream;
 public final class ReadmeTest {
     private static final Path README = Path.of("README.md");
     private static final Path TESTS = Path.of("src/test/java");
-    // [type name =] new RdfsRules(arguments) or object.method(arguments); // answer[: words]
+    // RdfsRules name = new RdfsRules(arguments) or [int name =] object.method(arguments),
+    // then ; // answer[: words]
     private static final Pattern LINE = Pattern.compile(
-        "(?:(?:RdfsRules|int) (\\w+) = )?(?:new RdfsRules|(\\w+)\\.(\\w+))\\(([^()]*)\\); +// ([^:]*)(?:: .*)?");
+        "(?:RdfsRules (?<made>\\w+) = new RdfsRules|(?:int (?<kept>\\w+) = )?(?<object>\\w+)\\.(?<method>\\w+))"
+        + "\\((?<arguments>[^()]*)\\); +// (?<told>[^:]*)(?:: .*)?");
     private static final Check check = new Check();
 
     private final Map<String, Object> values = new HashMap<>();
@@ -62,28 +64,28 @@ public final class ReadmeTest {
             check.due("README.md: a line that can be followed: " + line, false);
             return;
         }
-        Object[] arguments = arguments(parts.group(4));
-        String told = parts.group(5).trim();
-        if (parts.group(3) == null) {
-            values.put(parts.group(1), RdfsRules.class.getConstructor(int.class).newInstance(arguments));
-            dueTold(line, "made", told);
-            return;
-        }
-        Method method = methodOf(parts.group(3));
-        shown.add(method.getName());
-        String got;
-        try {
-            Object answer = method.invoke(values.get(parts.group(2)), arguments);
-            got = answer == null ? "done" : answer.toString();
-            values.put(parts.group(1), answer);
-        } catch (InvocationTargetException e) {
-            got = "throws " + e.getCause().getClass().getSimpleName();
-        }
-        dueTold(line, got, told);
+        String got = parts.group("made") != null ? make(parts) : call(parts);
+        check.due("README.md: " + line + " (it is: " + got + ")", got.equals(parts.group("told").trim()));
     }
 
-    private static void dueTold(String line, String got, String told) {
-        check.due("README.md: " + line + " (it is: " + got + ")", got.equals(told));
+    private String make(Matcher parts) throws ReflectiveOperationException {
+        Object[] arguments = arguments(parts.group("arguments"));
+        values.put(parts.group("made"), RdfsRules.class.getConstructor(int.class).newInstance(arguments));
+        return "made";
+    }
+
+    private String call(Matcher parts) throws ReflectiveOperationException {
+        Method method = methodOf(parts.group("method"));
+        shown.add(method.getName());
+        try {
+            Object answer = method.invoke(values.get(parts.group("object")), arguments(parts.group("arguments")));
+            if (parts.group("kept") != null) {
+                values.put(parts.group("kept"), answer);
+            }
+            return answer == null ? "done" : answer.toString();
+        } catch (InvocationTargetException e) {
+            return "throws " + e.getCause().getClass().getSimpleName();
+        }
     }
 
     private Object[] arguments(String list) {
